@@ -708,9 +708,10 @@ public final class Branchwork {
         private void measure(Content a, Content b) {
             Arrays.fill(common, 0);
             for (int i = a.length() - 1; i >= 0; i--) {
+                int line = a.lineAt(i);
                 for (int j = b.length() - 1; j >= 0; j--) {
                     int here = i * SIDE + j;
-                    if (a.lineAt(i) == b.lineAt(j)) {
+                    if (line == b.lineAt(j)) {
                         common[here] = common[here + SIDE + 1] + 1;
                     } else {
                         common[here] = Math.max(common[here + SIDE], common[here + 1]);
@@ -910,7 +911,11 @@ public final class Branchwork {
             }
             for (int path = 0; path < PATHS; path++) {
                 if (isNew(base, theirs, toTheirs, path)) {
-                    addTheirs(ours.fileAt(path), theirs.fileAt(path), path);
+                    if (newFromOurs[path]) {
+                        joinNew(ours.fileAt(path), theirs.fileAt(path), path);
+                    } else {
+                        bring(theirs.fileAt(path), path);
+                    }
                 }
             }
         }
@@ -941,7 +946,8 @@ public final class Branchwork {
             if (inTheirs != to && inTheirs != path) {
                 told.tell(MOVED_APART, to);
             }
-            if (blender.blendInto(result.fileAt(to), base.fileAt(path), ours.fileAt(inOurs), theirs.fileAt(inTheirs))) {
+            Content into = result.fileAt(to);
+            if (blender.blendInto(into, base.fileAt(path), ours.fileAt(inOurs), theirs.fileAt(inTheirs))) {
                 told.tell(TORN, to);
             }
         }
@@ -954,10 +960,8 @@ public final class Branchwork {
             }
         }
 
-        private void addTheirs(Content ours, Content theirs, int path) {
-            if (!newFromOurs[path]) {
-                bring(theirs, path);
-            } else if (!ours.sameAs(theirs)) {
+        private void joinNew(Content ours, Content theirs, int path) {
+            if (!ours.sameAs(theirs)) {
                 blender.blendInto(result.fileAt(path), noLines, ours, theirs);
                 told.tell(BOTH_NEW, path);
             }
@@ -1117,10 +1121,12 @@ public final class Branchwork {
 
         private void meetContents(int set) {
             Arrays.fill(metContents, 0);
-            for (int i = 0; i < contentNumbers.length; i++) {
-                int number = contentNumbers[i];
-                if (isIn(i / PATHS, set) && number >= 0 && number < metContents.length) {
-                    metContents[number] = 1;
+            for (int i = 0; i < MOST_COMMITS; i++) {
+                for (int path = 0; path < PATHS && isIn(i, set); path++) {
+                    int number = contentNumbers[i * PATHS + path];
+                    if (number >= 0 && number < metContents.length) {
+                        metContents[number] = 1;
+                    }
                 }
             }
         }
