@@ -196,6 +196,21 @@ public final class CommitsTest {
         CHECK.due("12: the only one", 0, () -> x.settle(0));
         CHECK.due("12: it is still being merged", 1, () -> x.now(2));
         CHECK.compare("12: the tree stays", "0[20 10] 1[21 11] 2[22 12]", Files.showAll(x, -1));
+        Branchwork y = Files.committed(Files.file(0, 1), Files.file(1, 2));
+        y.branch();
+        Files.write(y, 0, 5);
+        Files.write(y, 1, 6);
+        Files.write(y, 2, 7);
+        y.commit(1);
+        y.change(1);
+        Files.write(y, 0, 8);
+        y.remove(1);
+        Files.write(y, 2, 9);
+        y.commit(2);
+        y.merge(0);
+        CHECK.compare("12: conflicts of three codes", "3@0 1@1 4@2", Files.showConflicts(y));
+        CHECK.due("12: the first one", 2, () -> y.settle(0));
+        CHECK.compare("12: those behind keep code and path", "1@1 4@2", Files.showConflicts(y));
     }
 
     private static void promise13() {

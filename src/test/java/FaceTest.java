@@ -7,7 +7,7 @@ import java.util.List;
 import java.util.Set;
 import java.util.TreeSet;
 
-/** The public face of the document, all of it and nothing else, and what can be told of the language's rules by looking at classes. */
+/** The public face of the document, and nothing else; and what rules of the language can be seen in classes. */
 public final class FaceTest {
     private static final String INDEX = " throws IndexOutOfBoundsException";
     private static final String ARGUMENT = " throws IllegalArgumentException";

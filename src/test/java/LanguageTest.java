@@ -19,7 +19,8 @@ public final class LanguageTest {
 
     public static void main(String[] args) throws IOException {
         String source = java.nio.file.Files.readString(Path.of("src/main/java/Branchwork.java"));
-        String code = source.replaceAll("/\\*(?s:.*?)\\*/", "").replaceAll("//.*", "").replaceAll("\"[^\"\n]*\"", "\"\"");
+        String uncommented = source.replaceAll("/\\*(?s:.*?)\\*/", "").replaceAll("//.*", "");
+        String code = uncommented.replaceAll("\"[^\"\n]*\"", "\"\"");
         for (String pattern : NOT_USED) {
             Matcher found = Pattern.compile(pattern).matcher(code);
             CHECK.holds("no " + pattern, !found.find());
@@ -28,8 +29,8 @@ public final class LanguageTest {
         allAre(code, "import ([\\w.]+)", Set.of("java.util.Arrays"));
         allAre(code, "throw new (\\w+)", THROWN);
         allAre(code, "\\b((?:Arrays|Math|Integer|Long|List)\\.\\w+)(?=\\()", LIBRARY);
-        allAre(code, "Arrays\\.fill\\((\\w+),", Set.of("tips", "common", "partnersInA", "partnersInB", "fates", "sources",
-                "metContents"));
+        allAre(code, "Arrays\\.fill\\((\\w+),", Set.of("tips", "common", "partnersInA", "partnersInB", "fates",
+                "sources", "metContents"));
         methodsAreShort(source);
         CHECK.end();
     }

@@ -51,7 +51,8 @@ public final class MergeTest {
         return x;
     }
 
-    private static void merges(String what, int[][] base, int[][] ours, int[][] theirs, String files, String conflicts) {
+    private static void merges(String what, int[][] base, int[][] ours, int[][] theirs,
+            String files, String conflicts) {
         Branchwork x = apart(base, ours, theirs);
         int want = conflicts.isEmpty() ? 0 : conflicts.split(" ").length;
         CHECK.due("11: conflicts, " + what, want, () -> x.conflictsOf(1, 2));

@@ -13,6 +13,7 @@ public final class OtherwiseTest {
         promise25();
         promise25Merged();
         promise25Renamed();
+        gone();
         CHECK.end();
     }
 
@@ -154,6 +155,9 @@ public final class OtherwiseTest {
         // The parent is a: its 1 is left out, so that 2 is paired.
         CHECK.due("25: paired", 0, () -> y.origin(1, 0, 0));
         CHECK.due("25: not paired", 1, () -> y.origin(1, 0, 1));
+        commit(y, Files.file(0, 8, 9, 2, 1));
+        CHECK.due("25: behind two lines that came later", 0, () -> y.origin(2, 0, 2));
+        CHECK.due("25: one of these", 2, () -> y.origin(2, 0, 1));
     }
 
     private static void promise25Merged() {
@@ -197,5 +201,22 @@ public final class OtherwiseTest {
         CHECK.due("25: not renamed, as the parent's path is still there", 3, () -> x.origin(3, 4, 0));
         commit(x, Files.file(5, 8, 1, 1));
         CHECK.due("25: not near enough", 4, () -> x.origin(4, 5, 0));
+    }
+
+    /** A commit that is gone is no such commit, though its tree may still be somewhere inside. */
+    private static void gone() {
+        Branchwork x = changed();
+        x.reset(0);
+        CHECK.due("24: not gone yet", 85, () -> x.nearness(0, 0, 1, 7));
+        x.collect();
+        CHECK.fails("22: gone, a", INDEX, () -> x.went(1, 0, 7));
+        CHECK.fails("22: gone, b", INDEX, () -> x.went(0, 1, 0));
+        CHECK.fails("23: gone, a", INDEX, () -> x.changes(1, 0, 0));
+        CHECK.fails("23: gone, b", INDEX, () -> x.changes(0, 1, 0));
+        CHECK.fails("23: gone, ahead of what", INDEX, () -> x.changes(0, 1, 4));
+        CHECK.fails("24: gone, a", INDEX, () -> x.nearness(1, 7, 0, 0));
+        CHECK.fails("24: gone, b", INDEX, () -> x.nearness(0, 0, 1, 7));
+        CHECK.fails("25: gone", INDEX, () -> x.origin(1, 7, 0));
+        CHECK.due("25: not gone", 0, () -> x.origin(0, 0, 0));
     }
 }

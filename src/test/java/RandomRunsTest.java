@@ -95,10 +95,10 @@ public final class RandomRunsTest {
     private void write() {
         String name = chance.oneIn(4) ? WRITING[chance.upTo(WRITING.length)] : "put";
         int path = chance.upTo(paths);
-        int size = Math.max(twins.model.size(-1, path), 0);
+        int place = chance.upTo(Math.max(twins.model.size(-1, path), 0) + 1);
         switch (name) {
-            case "put" -> twins.call(name, argument(path), argument(chance.upTo(size + 1)), argument(chance.upTo(alphabet)));
-            case "cut" -> twins.call(name, argument(path), argument(chance.upTo(size + 1)));
+            case "put" -> twins.call(name, argument(path), argument(place), argument(chance.upTo(alphabet)));
+            case "cut" -> twins.call(name, argument(path), argument(place));
             case "rename" -> twins.call(name, argument(path), argument(chance.upTo(12)));
             default -> twins.call(name, argument(path));
         }

@@ -1,7 +1,7 @@
 import java.lang.management.ManagementFactory;
 import java.util.function.LongSupplier;
 
-/** What a run makes stays far below the room of LANGUAGE.md: objects are made in the constructor, and none by a call. */
+/** What a run makes stays far below the room of LANGUAGE.md: the constructor makes objects, and calls make none. */
 public final class RoomTest {
     private static final int CALLS = 512;
     private static final long MOST_FOR_AN_OBJECT = 150_000;
