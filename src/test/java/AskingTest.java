@@ -38,8 +38,8 @@ public final class AskingTest {
         CHECK.due("14: conflicts", 0, () -> x.many(3));
         CHECK.due("14: trees", 3, () -> x.many(4));
         CHECK.due("14: contents, that without lines too", 5, () -> x.many(5));
-        CHECK.fails("14: 6", ARGUMENT, () -> x.many(6));
-        CHECK.fails("14: -1", ARGUMENT, () -> x.many(-1));
+        CHECK.refused("14: 6", ARGUMENT, x, () -> x.many(6));
+        CHECK.refused("14: -1", ARGUMENT, x, () -> x.many(-1));
         x.remove(5);
         x.merge(0);
         CHECK.due("14: a conflict", 1, () -> x.many(3));
@@ -76,8 +76,8 @@ public final class AskingTest {
         CHECK.due("15: none is being merged", -1, () -> x.now(2));
         x.merge(0);
         CHECK.due("15: being merged", 1, () -> x.now(2));
-        CHECK.fails("15: 3", ARGUMENT, () -> x.now(3));
-        CHECK.fails("15: -1", ARGUMENT, () -> x.now(-1));
+        CHECK.refused("15: 3", ARGUMENT, x, () -> x.now(3));
+        CHECK.refused("15: -1", ARGUMENT, x, () -> x.now(-1));
         x.settle(0);
         CHECK.due("15: still being merged", 1, () -> x.now(2));
         x.commit(0);
@@ -88,13 +88,13 @@ public final class AskingTest {
     private static void promise16() {
         Branchwork x = new Branchwork();
         CHECK.due("16: at none", -1, () -> x.at(0));
-        CHECK.fails("16: 1", INDEX, () -> x.at(1));
-        CHECK.fails("16: -1", INDEX, () -> x.at(-1));
-        CHECK.fails("16: 5", INDEX, () -> x.at(5));
+        CHECK.refused("16: 1", INDEX, x, () -> x.at(1));
+        CHECK.refused("16: -1", INDEX, x, () -> x.at(-1));
+        CHECK.refused("16: 5", INDEX, x, () -> x.at(5));
         Branchwork y = apart();
         CHECK.due("16: the first one", 1, () -> y.at(0));
         CHECK.due("16: the second one", 2, () -> y.at(1));
-        CHECK.fails("16: no third one", INDEX, () -> y.at(2));
+        CHECK.refused("16: no third one", INDEX, y, () -> y.at(2));
     }
 
     private static void promise17() {
@@ -111,21 +111,21 @@ public final class AskingTest {
                 CHECK.due("17: ofCommit(" + a + ", " + b + ")", want[a][b], () -> x.ofCommit(a, b));
             }
         }
-        CHECK.fails("17: what 6", ARGUMENT, () -> x.ofCommit(0, 6));
-        CHECK.fails("17: what -1", ARGUMENT, () -> x.ofCommit(0, -1));
-        CHECK.fails("17: commit 4", INDEX, () -> x.ofCommit(4, 0));
-        CHECK.fails("17: commit -1", INDEX, () -> x.ofCommit(-1, 0));
-        CHECK.fails("17: commit ahead of what", INDEX, () -> x.ofCommit(4, 6));
+        CHECK.refused("17: what 6", ARGUMENT, x, () -> x.ofCommit(0, 6));
+        CHECK.refused("17: what -1", ARGUMENT, x, () -> x.ofCommit(0, -1));
+        CHECK.refused("17: commit 4", INDEX, x, () -> x.ofCommit(4, 0));
+        CHECK.refused("17: commit -1", INDEX, x, () -> x.ofCommit(-1, 0));
+        CHECK.refused("17: commit ahead of what", INDEX, x, () -> x.ofCommit(4, 6));
         x.reset(0);
         CHECK.due("17: not reached", 0, () -> x.ofCommit(3, 5));
         CHECK.due("17: not reached", 0, () -> x.ofCommit(2, 5));
         CHECK.due("17: reached by the other branch", 1, () -> x.ofCommit(1, 5));
         CHECK.due("17: reached as a parent", 1, () -> x.ofCommit(0, 5));
         x.collect();
-        CHECK.fails("17: gone", INDEX, () -> x.ofCommit(3, 0));
+        CHECK.refused("17: gone", INDEX, x, () -> x.ofCommit(3, 0));
         CHECK.due("17: not gone", 11, () -> x.ofCommit(1, 2));
-        CHECK.fails("17: far away", INDEX, () -> x.ofCommit(32, 0));
-        CHECK.fails("17: farther away", INDEX, () -> x.ofCommit(Integer.MIN_VALUE, 0));
+        CHECK.refused("17: far away", INDEX, x, () -> x.ofCommit(32, 0));
+        CHECK.refused("17: farther away", INDEX, x, () -> x.ofCommit(Integer.MIN_VALUE, 0));
     }
 
     private static void promise18() {
@@ -145,14 +145,14 @@ public final class AskingTest {
         x.cut(3, 0);
         x.cut(3, 0);
         CHECK.due("18: nothing is left of a line that was cut", -1, () -> x.line(-1, 3, 0));
-        CHECK.fails("18: commit 3", INDEX, () -> x.line(3, 0, 0));
-        CHECK.fails("18: commit -2", INDEX, () -> x.line(-2, 0, 0));
-        CHECK.fails("18: path 12", INDEX, () -> x.line(0, 12, 0));
-        CHECK.fails("18: path -1", INDEX, () -> x.line(0, -1, 0));
-        CHECK.fails("18: path 12 of the working tree", INDEX, () -> x.line(-1, 12, 0));
+        CHECK.refused("18: commit 3", INDEX, x, () -> x.line(3, 0, 0));
+        CHECK.refused("18: commit -2", INDEX, x, () -> x.line(-2, 0, 0));
+        CHECK.refused("18: path 12", INDEX, x, () -> x.line(0, 12, 0));
+        CHECK.refused("18: path -1", INDEX, x, () -> x.line(0, -1, 0));
+        CHECK.refused("18: path 12 of the working tree", INDEX, x, () -> x.line(-1, 12, 0));
         x.reset(0);
         x.collect();
-        CHECK.fails("18: gone", INDEX, () -> x.line(2, 0, 0));
+        CHECK.refused("18: gone", INDEX, x, () -> x.line(2, 0, 0));
     }
 
     private static void promise19() {
@@ -164,27 +164,27 @@ public final class AskingTest {
         CHECK.due("19: the working tree", 3, () -> x.size(-1, 3));
         CHECK.due("19: the commit stays", 2, () -> x.size(2, 3));
         CHECK.due("19: none in the working tree", -1, () -> x.size(-1, 4));
-        CHECK.fails("19: commit 3", INDEX, () -> x.size(3, 0));
-        CHECK.fails("19: commit -2", INDEX, () -> x.size(-2, 0));
-        CHECK.fails("19: path 12", INDEX, () -> x.size(0, 12));
-        CHECK.fails("19: path -1", INDEX, () -> x.size(-1, -1));
+        CHECK.refused("19: commit 3", INDEX, x, () -> x.size(3, 0));
+        CHECK.refused("19: commit -2", INDEX, x, () -> x.size(-2, 0));
+        CHECK.refused("19: path 12", INDEX, x, () -> x.size(0, 12));
+        CHECK.refused("19: path -1", INDEX, x, () -> x.size(-1, -1));
         x.reset(0);
         x.collect();
-        CHECK.fails("19: gone", INDEX, () -> x.size(2, 0));
+        CHECK.refused("19: gone", INDEX, x, () -> x.size(2, 0));
     }
 
     private static void promise20() {
         Branchwork x = apart();
-        CHECK.fails("20: none", INDEX, () -> x.conflict(0, 0));
-        CHECK.fails("20: none, ahead of what", INDEX, () -> x.conflict(0, 2));
+        CHECK.refused("20: none", INDEX, x, () -> x.conflict(0, 0));
+        CHECK.refused("20: none, ahead of what", INDEX, x, () -> x.conflict(0, 2));
         x.merge(0);
         CHECK.due("20: its code", 3, () -> x.conflict(0, 0));
         CHECK.due("20: its path", 0, () -> x.conflict(0, 1));
-        CHECK.fails("20: what 2", ARGUMENT, () -> x.conflict(0, 2));
-        CHECK.fails("20: what -1", ARGUMENT, () -> x.conflict(0, -1));
-        CHECK.fails("20: conflict 1", INDEX, () -> x.conflict(1, 0));
-        CHECK.fails("20: conflict -1", INDEX, () -> x.conflict(-1, 0));
-        CHECK.fails("20: conflict ahead of what", INDEX, () -> x.conflict(1, 2));
+        CHECK.refused("20: what 2", ARGUMENT, x, () -> x.conflict(0, 2));
+        CHECK.refused("20: what -1", ARGUMENT, x, () -> x.conflict(0, -1));
+        CHECK.refused("20: conflict 1", INDEX, x, () -> x.conflict(1, 0));
+        CHECK.refused("20: conflict -1", INDEX, x, () -> x.conflict(-1, 0));
+        CHECK.refused("20: conflict ahead of what", INDEX, x, () -> x.conflict(1, 2));
     }
 
     private static void promise21() {
@@ -198,13 +198,13 @@ public final class AskingTest {
         x.commit(3);
         CHECK.due("21: over the second parent", 1, () -> x.base(3, 1));
         CHECK.due("21: over the first parent", 2, () -> x.base(3, 2));
-        CHECK.fails("21: a", INDEX, () -> x.base(4, 0));
-        CHECK.fails("21: b", INDEX, () -> x.base(0, 4));
-        CHECK.fails("21: -1", INDEX, () -> x.base(-1, 0));
-        CHECK.fails("21: -1", INDEX, () -> x.base(0, -1));
+        CHECK.refused("21: a", INDEX, x, () -> x.base(4, 0));
+        CHECK.refused("21: b", INDEX, x, () -> x.base(0, 4));
+        CHECK.refused("21: -1", INDEX, x, () -> x.base(-1, 0));
+        CHECK.refused("21: -1", INDEX, x, () -> x.base(0, -1));
         x.reset(0);
         x.collect();
-        CHECK.fails("21: gone", INDEX, () -> x.base(0, 2));
-        CHECK.fails("21: gone", INDEX, () -> x.base(3, 0));
+        CHECK.refused("21: gone", INDEX, x, () -> x.base(0, 2));
+        CHECK.refused("21: gone", INDEX, x, () -> x.base(3, 0));
     }
 }

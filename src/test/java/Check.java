@@ -4,6 +4,10 @@ final class Check {
         Object answer();
     }
 
+    interface CallWith {
+        Object answer(int argument);
+    }
+
     private final String test;
     private int asked = 0;
     private int wrong = 0;
@@ -21,9 +25,19 @@ final class Check {
         compare(call, Double.toString(want), outcome(made));
     }
 
-    /** The call throws that exception, and none of a class below it. */
-    void fails(String call, Class<? extends RuntimeException> want, Call made) {
+    /** The call throws that exception, and none of a class below it, and changes nothing in the store. */
+    void refused(String call, Class<? extends RuntimeException> want, Branchwork x, Call made) {
+        String before = outcome(x::digest);
         compare(call, want.getSimpleName(), outcome(made));
+        compare(call + ", digest after it", before, outcome(x::digest));
+    }
+
+    /** Each of the arguments is refused like that. */
+    void refusedEach(String call, Class<? extends RuntimeException> want, Branchwork x, int[] arguments,
+            CallWith made) {
+        for (int argument : arguments) {
+            refused(call + " " + argument, want, x, () -> made.answer(argument));
+        }
     }
 
     void holds(String what, boolean true_) {

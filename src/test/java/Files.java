@@ -17,6 +17,20 @@ final class Files {
         return pathAndLines;
     }
 
+    /** The files that showAll would show as that: "0[1 2] 5[]". */
+    static int[][] tree(String shown) {
+        String[] parts = shown.isEmpty() ? new String[0] : shown.split("\\] ?");
+        int[][] files = new int[parts.length][];
+        for (int i = 0; i < parts.length; i++) {
+            String[] numbers = parts[i].split("[\\[ ]");
+            files[i] = new int[numbers.length];
+            for (int k = 0; k < numbers.length; k++) {
+                files[i][k] = Integer.parseInt(numbers[k]);
+            }
+        }
+        return files;
+    }
+
     /** Makes the file in the working tree be these lines, whatever it was. */
     static void write(Branchwork x, int path, int... lines) {
         if (x.size(-1, path) < 0) {

@@ -26,59 +26,27 @@ public final class MergeTest {
         return pathAndLines;
     }
 
-    private static void become(Branchwork x, int[][] tree) {
-        for (int path = 0; path < 12; path++) {
-            if (x.size(-1, path) >= 0) {
-                x.remove(path);
-            }
-        }
-        for (int[] file : tree) {
-            Files.write(x, file[0], java.util.Arrays.copyOfRange(file, 1, file.length));
-        }
-    }
-
-    /** Commit 0 is the base, 1 ours, 2 theirs; the current branch is 1, at ours, and branch 0 is at theirs. */
-    private static Branchwork apart(int[][] base, int[][] ours, int[][] theirs) {
-        Branchwork x = Files.committed(base);
-        x.branch();
-        x.change(1);
-        become(x, ours);
-        x.commit(1);
-        x.change(0);
-        become(x, theirs);
-        x.commit(2);
-        x.change(1);
-        return x;
-    }
-
     private static void merges(String what, int[][] base, int[][] ours, int[][] theirs,
             String files, String conflicts) {
-        Branchwork x = apart(base, ours, theirs);
-        int want = conflicts.isEmpty() ? 0 : conflicts.split(" ").length;
-        CHECK.due("11: conflicts, " + what, want, () -> x.conflictsOf(1, 2));
-        CHECK.due("11: merge, " + what, want, () -> x.merge(0));
-        CHECK.compare("11: files, " + what, files, Files.showAll(x, -1));
-        CHECK.compare("11: conflicts, " + what, conflicts, Files.showConflicts(x));
-        CHECK.due("11: being merged, " + what, 2, () -> x.now(2));
-        CHECK.due("11: head stays, " + what, 1, () -> x.now(1));
+        Merges.due(CHECK, what, Stores.apart(base, ours, theirs), files, conflicts);
     }
 
     private static void wrongCalls() {
         Branchwork x = new Branchwork();
-        CHECK.fails("11: no head", STATE, () -> x.merge(0));
-        CHECK.fails("11: no such branch ahead of no head", INDEX, () -> x.merge(1));
-        CHECK.fails("11: branch -1", INDEX, () -> x.merge(-1));
-        Branchwork y = apart(tree(file(0, 1)), tree(file(0, 2)), tree(file(0, 3)));
+        CHECK.refused("11: no head", STATE, x, () -> x.merge(0));
+        CHECK.refused("11: no such branch ahead of no head", INDEX, x, () -> x.merge(1));
+        CHECK.refused("11: branch -1", INDEX, x, () -> x.merge(-1));
+        Branchwork y = Stores.apart(tree(file(0, 1)), tree(file(0, 2)), tree(file(0, 3)));
         y.put(5, 0, 5);
-        CHECK.fails("11: not clean", STATE, () -> y.merge(0));
-        CHECK.fails("11: not clean, to itself", STATE, () -> y.merge(1));
-        CHECK.fails("11: no such branch ahead of not clean", INDEX, () -> y.merge(2));
+        CHECK.refused("11: not clean", STATE, y, () -> y.merge(0));
+        CHECK.refused("11: not clean, to itself", STATE, y, () -> y.merge(1));
+        CHECK.refused("11: no such branch ahead of not clean", INDEX, y, () -> y.merge(2));
         y.remove(5);
         CHECK.due("11: clean", 1, () -> y.merge(0));
-        CHECK.fails("11: being merged", STATE, () -> y.merge(0));
+        CHECK.refused("11: being merged", STATE, y, () -> y.merge(0));
         Files.write(y, 0, 2);
-        CHECK.fails("11: clean, being merged", STATE, () -> y.merge(0));
-        CHECK.fails("11: clean, being merged, to itself", STATE, () -> y.merge(1));
+        CHECK.refused("11: clean, being merged", STATE, y, () -> y.merge(0));
+        CHECK.refused("11: clean, being merged, to itself", STATE, y, () -> y.merge(1));
         CHECK.compare("11: conflicts stay", "3@0", Files.showConflicts(y));
     }
 
@@ -98,7 +66,7 @@ public final class MergeTest {
         CHECK.compare("11: the tree is its", "0[2]", Files.showAll(x, -1));
         CHECK.due("11: nothing is being merged", -1, () -> x.now(2));
         CHECK.due("11: no commit came to be", 2, () -> x.many(0));
-        Branchwork y = apart(tree(file(0, 1)), tree(file(0, 2)), tree(file(0, 1), file(1, 1)));
+        Branchwork y = Stores.apart(tree(file(0, 1)), tree(file(0, 2)), tree(file(0, 1), file(1, 1)));
         y.merge(0);
         y.commit(3);
         CHECK.due("11: a second parent is an ancestor", -1, () -> y.merge(0));
@@ -221,7 +189,7 @@ public final class MergeTest {
 
     /** After merges in both directions the base is the greatest common ancestor, not the first one. */
     private static void crossed() {
-        Branchwork x = apart(tree(file(0, 1)), tree(file(0, 1), file(1, 1)), tree(file(0, 1), file(2, 2)));
+        Branchwork x = Stores.apart(tree(file(0, 1)), tree(file(0, 1), file(1, 1)), tree(file(0, 1), file(2, 2)));
         CHECK.due("11: first merge", 0, () -> x.merge(0));
         x.commit(3);
         Files.write(x, 0, 4);

@@ -39,16 +39,16 @@ public final class WouldBeTest {
         CHECK.due("26: nothing is changed", before, x::digest);
         CHECK.due("26: nothing is being merged", -1, () -> x.now(2));
         CHECK.due("26: no conflicts", 0, () -> x.many(3));
-        CHECK.fails("26: a", INDEX, () -> x.conflictsOf(3, 0));
-        CHECK.fails("26: b", INDEX, () -> x.conflictsOf(0, 3));
-        CHECK.fails("26: -1", INDEX, () -> x.conflictsOf(-1, 0));
-        CHECK.fails("26: -1", INDEX, () -> x.conflictsOf(0, -1));
+        CHECK.refused("26: a", INDEX, x, () -> x.conflictsOf(3, 0));
+        CHECK.refused("26: b", INDEX, x, () -> x.conflictsOf(0, 3));
+        CHECK.refused("26: -1", INDEX, x, () -> x.conflictsOf(-1, 0));
+        CHECK.refused("26: -1", INDEX, x, () -> x.conflictsOf(0, -1));
         CHECK.due("26: merge tells as many", 3, () -> x.merge(0));
         CHECK.due("26: while being merged", 0, () -> x.conflictsOf(0, 0));
         CHECK.compare("26: the conflicts of the merge stay", "3@0 1@1 4@2", Files.showConflicts(x));
         x.reset(0);
         x.collect();
-        CHECK.fails("26: gone", INDEX, () -> x.conflictsOf(0, 2));
+        CHECK.refused("26: gone", INDEX, x, () -> x.conflictsOf(0, 2));
     }
 
     private static void promise27() {
