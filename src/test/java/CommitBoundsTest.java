@@ -459,9 +459,7 @@ public final class CommitBoundsTest {
             CHECK.due("12: the last", left, () -> x.settle(number));
         }
         CHECK.due("12: all settled", 3, () -> x.commit(0));
-        Branchwork y = Stores.apart("0[1 2] 1[3 4] 2[5 6] 3[7 8] 4[9 10] 5[11 12]",
-                "6[1 2 20] 7[3 4 20] 8[5 6 20] 9[7 8 20] 10[9 10 20] 11[11 12 20]",
-                "7[1 2 30] 8[3 4 30] 9[5 6 30] 10[7 8 30] 11[9 10 30] 6[11 12 30]");
+        Branchwork y = Stores.mostConflicts();
         CHECK.due("11: two for each of six files", 12, () -> y.merge(0));
         CHECK.compare("11: 2 ahead of 3", "2@6 3@6 2@7 3@7 2@8 3@8 2@9 3@9 2@10 3@10 2@11 3@11",
                 Files.showConflicts(y));

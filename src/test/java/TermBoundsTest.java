@@ -9,6 +9,7 @@ public final class TermBoundsTest {
         matchAtEnds();
         matchNotLess();
         matchInOrder();
+        matchLinesAlike();
         nearnessEdges();
         nearnessCut();
         renameEnough();
@@ -98,6 +99,23 @@ public final class TermBoundsTest {
         paired("apart in b", "[1 2 3]", "[1 7 2 8 3]", 0, 2, 4);
         paired("apart in a", "[1 7 2 8 3]", "[1 2 3]", 0, 1, 2);
         paired("the first and the last", TEN, "[0 20 21 22 23 24 25 26 27 9]", 0, 9);
+    }
+
+    /** Each LINE is in one PAIR at most, and the first of several alike takes the first. */
+    private static void matchLinesAlike() {
+        paired("one for two", "[1]", "[1 1]", 0);
+        paired("two for three", "[1 1]", "[1 1 1]", 0, 1);
+        paired("two blocks alike", "[1 2]", "[1 2 1 2]", 0, 1);
+        near("two alike and one", 66, "[1 1]", "[1]");
+        near("three alike and one", 50, "[1 1 1]", "[1]");
+        near("ten alike and one", 18, "[1 1 1 1 1 1 1 1 1 1]", "[1]");
+        near("two blocks alike and one", 66, "[1 2 1 2]", "[1 2]");
+        Branchwork x = Stores.line("0[1]", "0[1 1]", "0[1]");
+        CHECK.due("2: the second of two alike is new", 1, () -> x.origin(1, 0, 1));
+        CHECK.due("2: the one of two that stays is the first", 0, () -> x.origin(2, 0, 0));
+        merges("the second of two alike is cut in ours", "0[1 1]", "0[1]", "0[1 1 2]", "0[1 1 2]", "3@0");
+        merges("the second of two alike is cut in theirs", "0[1 1]", "0[1 1 2]", "0[1]", "0[1 1 2]", "3@0");
+        merges("one of two alike is cut in both", "0[1 1]", "0[1]", "0[1] 1[1]", "0[1] 1[1]", "");
     }
 
     /** "200 * (PAIRS) / (LINES of both together); 100, if both have none" */
@@ -216,9 +234,11 @@ public final class TermBoundsTest {
         merges("at two others, the other way", "5[1]", "11[1]", "0[1]", "11[1]", "2@11");
     }
 
-    /** "for each PATH that OURS has, that is not in BASE, and to which nothing was renamed in it"; likewise for THEIRS */
+    /** "for each PATH that OURS has, that is not in BASE, and to which nothing was renamed in it"; so of THEIRS */
     private static void newInOne() {
         merges("new at the edges", "5[1]", "5[1] 0[7] 1[]", "5[1] 11[8] 10[]", "0[7] 1[] 5[1] 10[] 11[8]", "");
+        merges("new in theirs at the first path", "5[1]", "5[1] 11[7]", "5[1] 0[8]", "0[8] 5[1] 11[7]", "");
+        merges("new in ours at the last path", "5[1]", "5[1] 11[]", "5[1 2]", "5[1 2] 11[]", "");
         merges("new in ours, and renamed away there", "0[1 2] 1[9]", "5[1 2] 1[9] 6[3]", "0[1 2] 1[9] 7[4]",
                 "1[9] 5[1 2] 6[3] 7[4]", "");
     }
@@ -236,6 +256,8 @@ public final class TermBoundsTest {
 
     /** "nothing, if both are the same; otherwise ... CONFLICT 4 (whether LINES are in conflict or not)" */
     private static void newInBoth() {
+        merges("new in both at the first path", "5[1]", "5[1] 0[7]", "5[1] 0[8]", "0[7 8] 5[1]", "4@0");
+        merges("new in both at the first path, alike", "5[1]", "5[1] 0[7]", "5[2] 0[7]", "0[7] 5[2]", "");
         merges("new in both, both without lines", "0[1]", "0[1] 11[]", "0[2] 11[]", "0[2] 11[]", "");
         merges("new in both, ten lines alike", "0[1]", "0[1] 11" + TEN, "0[2] 11" + TEN, "0[2] 11" + TEN, "");
         merges("new in both, theirs without lines", "0[1]", "0[1] 11[3]", "0[1] 11[]", "0[1] 11[3]", "4@11");
@@ -260,7 +282,8 @@ public final class TermBoundsTest {
                 "10[3 4] 11[1 2]", "2@10");
         merges("new in theirs, without lines, too late", "0[1 2]", "11[1 2]", "0[1 2] 11[]", "11[1 2]", "5@11");
         merges("new in ours too late", "0[1 2]", "0[1 2] 11[]", "11[1 2]", "11[1 2]", "5@11");
-        merges("its own 2 and 3, and the 5", "0[1 2]", "11[1 2 8]", "10[1 2 9] 11[7]", "11[1 2 8 9]", "2@11 3@11 5@11");
+        merges("its own 2 and 3, and the 5", "0[1 2]", "11[1 2 8]", "10[1 2 9] 11[7]",
+                "11[1 2 8 9]", "2@11 3@11 5@11");
     }
 
     /** "each of the three has a PART (maybe without LINES; all of it, if there is no FIRM one)" */
@@ -281,7 +304,7 @@ public final class TermBoundsTest {
         merges("firm ones beside each other", "0[5 6 7]", "0[5 6 7 1]", "0[2 5 6 7]", "0[2 5 6 7 1]", "");
     }
 
-    /** "that of THEIRS, if that of OURS is as that of BASE; otherwise that of OURS, if that of THEIRS is as that of ..." */
+    /** "that of THEIRS, if that of OURS is as that of BASE; otherwise that of OURS, if that of THEIRS is as ..." */
     private static void partsAlike() {
         merges("ours as base", "0[5 1 6]", "0[5 1 6] 1[1]", "0[5 2 3 6]", "0[5 2 3 6] 1[1]", "");
         merges("theirs as base", "0[5 1 6]", "0[5 2 3 6]", "0[5 1 6] 1[1]", "0[5 2 3 6] 1[1]", "");
@@ -345,6 +368,20 @@ public final class TermBoundsTest {
         CHECK.due("4: commits", 6, () -> x.many(0));
         CHECK.due("4: trees", 5, () -> x.many(4));
         CHECK.due("4: contents", 3, () -> x.many(5));
+        Branchwork twice = Stores.line("0[1]", "0[2]", "0[1]", "0[2]", "0[1]");
+        CHECK.due("4: two trees, time and again", 2, () -> twice.many(4));
+        CHECK.due("4: two contents, time and again", 2, () -> twice.many(5));
+        Branchwork one = Stores.line("5[1]", "6[1]");
+        CHECK.due("4: no content where there is no file", 1, () -> one.many(5));
+        CHECK.dueDouble("4: so the mean is its own", 1.0, one::meanLines);
+        Branchwork gone = Stores.line("0[1]", "0[2]");
+        gone.reset(0);
+        Stores.commit(gone, 0, Files.tree("0[3]"));
+        Stores.commit(gone, 0, Files.tree("0[1]"));
+        Stores.commit(gone, 0, Files.tree("0[2]"));
+        CHECK.due("4: only a commit goes, as another one has its tree", 1, gone::collect);
+        CHECK.due("4: trees", 3, () -> gone.many(4));
+        CHECK.due("4: contents", 3, () -> gone.many(5));
         Branchwork y = Stores.line("0[1 2]", "0[2 1]", "0[1]", "0[0 1 2]", "0[12]");
         CHECK.due("4: the same lines in another order, or less, or more", 5, () -> y.many(5));
     }

@@ -56,9 +56,7 @@ public final class WouldBeBoundsTest {
     }
 
     private static void conflictsOfMost() {
-        Branchwork x = Stores.apart("0[1 2] 1[3 4] 2[5 6] 3[7 8] 4[9 10] 5[11 12]",
-                "6[1 2 20] 7[3 4 20] 8[5 6 20] 9[7 8 20] 10[9 10 20] 11[11 12 20]",
-                "7[1 2 30] 8[3 4 30] 9[5 6 30] 10[7 8 30] 11[9 10 30] 6[11 12 30]");
+        Branchwork x = Stores.mostConflicts();
         CHECK.due("26: two for each of six files", 12, () -> x.conflictsOf(1, 2));
         CHECK.due("26: the other way", 12, () -> x.conflictsOf(2, 1));
         CHECK.due("26: nothing is being merged", -1, () -> x.now(2));

@@ -133,16 +133,29 @@ public final class WouldBeTest {
         CHECK.due("29: a file", told(x), x::digest);
         x.commit(5);
         CHECK.due("29: a commit", told(x), x::digest);
-        Branchwork y = apart();
-        CHECK.due("29: two branches", told(y), y::digest);
-        y.merge(0);
-        CHECK.due("29: being merged", told(y), y::digest);
-        y.settle(1);
-        CHECK.due("29: one settled", told(y), y::digest);
-        y.reset(0);
-        CHECK.due("29: set back", told(y), y::digest);
-        y.collect();
-        CHECK.due("29: collected", told(y), y::digest);
+        String[] steps = {"two branches", "being merged", "one settled", "set back", "collected"};
+        for (int i = 0; i < steps.length; i++) {
+            Branchwork y = afterSteps(i);
+            CHECK.due("29: " + steps[i], told(y), y::digest);
+        }
+    }
+
+    /** Each time anew, as telling all takes many of the 512 calls. */
+    private static Branchwork afterSteps(int steps) {
+        Branchwork x = apart();
+        if (steps >= 1) {
+            x.merge(0);
+        }
+        if (steps >= 2) {
+            x.settle(1);
+        }
+        if (steps >= 3) {
+            x.reset(0);
+        }
+        if (steps >= 4) {
+            x.collect();
+        }
+        return x;
     }
 
     /** The digest out of what the other calls answer. */
