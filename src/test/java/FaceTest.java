@@ -1,11 +1,15 @@
+import java.io.IOException;
 import java.lang.reflect.Constructor;
 import java.lang.reflect.Field;
 import java.lang.reflect.Method;
 import java.lang.reflect.Modifier;
+import java.nio.file.Path;
 import java.util.ArrayList;
 import java.util.List;
 import java.util.Set;
 import java.util.TreeSet;
+import java.util.regex.Matcher;
+import java.util.regex.Pattern;
 
 /** The public face of the document, and nothing else; and what rules of the language can be seen in classes. */
 public final class FaceTest {
@@ -42,10 +46,19 @@ public final class FaceTest {
         "double meanLines()",
         "long digest()"};
 
+    /** The calls in the document's order, each behind the words that the interface says ahead of them. */
+    private static final String[] IN_ORDER = {
+        "// ---- the working tree", "put", "cut", "rename", "remove", "status",
+        "// ---- commits and branches", "commit", "branch", "change", "reset", "merge", "settle", "collect",
+        "// ---- asking", "many", "now", "at", "ofCommit", "line", "size", "conflict", "base",
+        "// ---- what became otherwise", "went", "changes", "nearness", "origin",
+        "// ---- what would be (nothing is changed)", "conflictsOf", "garbage", "meanLines", "digest"};
+
     private static final Check CHECK = new Check("FaceTest");
 
-    public static void main(String[] args) {
+    public static void main(String[] args) throws IOException {
         compareFace();
+        compareOrder(java.nio.file.Files.readString(Path.of("src/main/java/Branchwork.java")));
         for (Class<?> inside : Branchwork.class.getDeclaredClasses()) {
             lookInside(inside);
         }
@@ -74,6 +87,16 @@ public final class FaceTest {
         for (Field field : Branchwork.class.getDeclaredFields()) {
             CHECK.holds(field + " is private", Modifier.isPrivate(field.getModifiers()));
         }
+    }
+
+    private static void compareOrder(String source) {
+        List<String> got = new ArrayList<>();
+        Matcher met = Pattern.compile("^    (// ---- .*|public (?:int|long|double) (\\w+)\\(.*)$", Pattern.MULTILINE)
+                .matcher(source);
+        while (met.find()) {
+            got.add(met.group(2) == null ? met.group(1) : met.group(2));
+        }
+        CHECK.compare("the calls in their order", String.join("\n", IN_ORDER), String.join("\n", got));
     }
 
     private static String signature(Method method) {
